@@ -19,6 +19,7 @@ final class VersionsTest {
         Check.test("promises 5 and 6: the document's ways with images", VersionsTest::waysWithImages);
         Check.test("promises 5 and 6: the longest and largest way", VersionsTest::longestWay);
         Check.test("promises 5 and 6: a delta that is taken away", VersionsTest::deltaTakenAway);
+        Check.test("promises 5 and 6: a way over each version", VersionsTest::wayOverEach);
         Check.test("promises 5 and 6: all pairs of a full graph", VersionsTest::fullGraph);
         Check.test("promise 5: size refuses", VersionsTest::sizeRefuses);
         Check.test("promise 6: sizeByWays refuses", VersionsTest::sizeByWaysRefuses);
@@ -209,6 +210,22 @@ final class VersionsTest {
         sizes(x, 0, 1, 5);
         x.setDelta(1, 2, 7);
         sizes(x, 0, 2, 12);
+    }
+
+    private static void wayOverEach() {
+        for (int via = 0; via < 8; via++) {
+            Ringroll x = new Ringroll();
+            int from = (via + 3) % 8;
+            int to = (via + 6) % 8;
+            x.setDelta(from, via, 11);
+            x.setDelta(via, to, 22);
+            sizes(x, from, to, 33);
+            sizes(x, to, from, NONE);
+            x.setImage(from, 4);
+            sizes(x, (via + 1) % 8, to, 37);
+            x.setImage(via, 5);
+            sizes(x, from, to, 27);
+        }
     }
 
     private static void fullGraph() {
