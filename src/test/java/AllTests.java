@@ -9,6 +9,9 @@ public final class AllTests {
         DevicesTest.run();
         CampaignsTest.run();
         HoursTest.run();
+        RefusalsTest.run();
+        EdgesTest.run();
+        CampaignEdgesTest.run();
         ModelTest.run();
         System.out.println("tests of the project: " + Check.passed + " passed, " + Check.failed + " failed");
         if (Check.failed != 0 || Check.passed == 0) {

@@ -11,8 +11,6 @@ final class CampaignsTest {
         Check.test("promise 17: the rules at first", CampaignsTest::rulesAtFirst);
         Check.test("promise 17: begin stops what it replaces", CampaignsTest::beginReplaces);
         Check.test("promise 17: devices of a replaced campaign go on", CampaignsTest::replacedGoesOn);
-        Check.test("promise 17: begin refuses", CampaignsTest::beginRefuses);
-        Check.test("promise 17: begin refuses a seventh campaign last", CampaignsTest::seventhRefused);
         Check.test("promise 18: shares", CampaignsTest::shares);
         Check.test("promise 18: needs", CampaignsTest::needs);
         Check.test("promise 18: lower needs are judged at the next report", CampaignsTest::lowerNeeds);
@@ -28,11 +26,10 @@ final class CampaignsTest {
         Check.test("promise 23: eligible asks kind, version, target and way", CampaignsTest::eligibleAsks);
         Check.test("promise 23: eligible are idle devices alone", CampaignsTest::eligibleIdle);
         Check.test("promise 23: the draws of all devices in all campaigns", CampaignsTest::draws);
-        Check.test("promises 19 to 23: what is asked of no campaign is refused", CampaignsTest::askedOfNone);
     }
 
     private static void beginNumbers() {
-        Ringroll x = new Ringroll();
+        Told x = new Told();
         for (int c = 0; c < 6; c++) {
             Check.same("begin", c, x.begin(c, c, c, NONE));
             Check.yes("isActive(" + c + ")", x.isActive(c));
@@ -43,7 +40,7 @@ final class CampaignsTest {
     }
 
     private static void rulesAtFirst() {
-        Ringroll x = Check.fleet(10);
+        Told x = Check.fleet(10);
         for (int c = 0; c < 6; c++) {
             x.begin(1, 15, c == 5 ? 255 : 0, NONE);
         }
@@ -56,13 +53,13 @@ final class CampaignsTest {
         Check.same("ring(5) after two reports", 0, x.ring(5));
         Check.same("reports(5) after two reports", 2, x.reports(5));
         Check.yes("isActive(5) after two reports, one of them bad", x.isActive(5));
-        Ringroll y = Check.fleet(10);
+        Told y = Check.fleet(10);
         y.begin(1, 15, 255, NONE);
         Check.same("eligible(0), the draw 9 but not the draw 13", 1 << 8, y.eligible(0));
     }
 
     private static void beginReplaces() {
-        Ringroll x = Check.fleet(3);
+        Told x = Check.fleet(3);
         x.begin(1, 15, 255, NONE);
         x.begin(2, 15, 255, NONE);
         Check.same("begin", 2, x.begin(3, 15, 255, 1));
@@ -76,7 +73,7 @@ final class CampaignsTest {
     }
 
     private static void replacedGoesOn() {
-        Ringroll x = Check.fleet(2);
+        Told x = Check.fleet(2);
         x.setImage(1, 200);
         x.setWindow(1, 1, 23);
         Check.beginForAll(x, 1, 10, 0);
@@ -93,44 +90,8 @@ final class CampaignsTest {
         Check.same("reports(1)", 0, x.reports(1));
     }
 
-    private static void beginRefuses() {
-        Ringroll x = Check.fleet(3);
-        Check.refuses("begin(1, 15, 255, 0)", Check.INDEX, x, () -> x.begin(1, 15, 255, 0));
-        x.begin(1, 15, 255, NONE);
-        for (int target : new int[] {-1, 8, Integer.MIN_VALUE, Integer.MAX_VALUE}) {
-            Check.refuses("begin(" + target + ", 0, 0, 0)", Check.INDEX, x, () -> x.begin(target, 0, 0, 0));
-            Check.refuses("begin(" + target + ", 16, 0, 0)", Check.INDEX, x, () -> x.begin(target, 16, 0, 0));
-        }
-        for (int replaced : new int[] {-2, 1, 6, Integer.MIN_VALUE, Integer.MAX_VALUE}) {
-            Check.refuses("begin(1, 0, 0, " + replaced + ")", Check.INDEX, x, () -> x.begin(1, 0, 0, replaced));
-            Check.refuses("begin(1, 16, 256, " + replaced + ")", Check.INDEX, x, () -> x.begin(1, 16, 256, replaced));
-        }
-        for (int kinds : new int[] {-1, 16, Integer.MIN_VALUE, Integer.MAX_VALUE}) {
-            Check.refuses("begin(1, " + kinds + ", 0, 0)", Check.ARGUMENT, x, () -> x.begin(1, kinds, 0, 0));
-        }
-        for (int versions : new int[] {-1, 256, Integer.MIN_VALUE, Integer.MAX_VALUE}) {
-            Check.refuses("begin(1, 0, " + versions + ", 0)", Check.ARGUMENT, x, () -> x.begin(1, 0, versions, 0));
-        }
-        Check.yes("isActive(0), replaced by none of them", x.isActive(0));
-        Check.same("begin(0, 0, 0, NONE)", 1, x.begin(0, 0, 0, NONE));
-    }
-
-    private static void seventhRefused() {
-        Ringroll x = Check.fleet(3);
-        for (int c = 0; c < 6; c++) {
-            x.begin(7, 15, 255, NONE);
-        }
-        Check.refuses("begin(7, 15, 255, 0)", Check.STATE, x, () -> x.begin(7, 15, 255, 0));
-        Check.refuses("begin(7, 15, 255, NONE)", Check.STATE, x, () -> x.begin(7, 15, 255, NONE));
-        Check.refuses("begin(7, 16, 255, 0)", Check.ARGUMENT, x, () -> x.begin(7, 16, 255, 0));
-        Check.refuses("begin(7, 15, 256, 0)", Check.ARGUMENT, x, () -> x.begin(7, 15, 256, 0));
-        Check.refuses("begin(8, 15, 255, 0)", Check.INDEX, x, () -> x.begin(8, 15, 255, 0));
-        Check.refuses("begin(7, 15, 255, 6)", Check.INDEX, x, () -> x.begin(7, 15, 255, 6));
-        Check.yes("isActive(0)", x.isActive(0));
-    }
-
     private static void shares() {
-        Ringroll x = Check.fleet(10);
+        Told x = Check.fleet(10);
         x.begin(1, 15, 255, NONE);
         for (int share = 0; share <= 100; share++) {
             x.setRules(0, share, 100, 1, 0);
@@ -164,7 +125,7 @@ final class CampaignsTest {
 
     private static void needs() {
         for (int needs = 1; needs <= 10; needs++) {
-            Ringroll x = Check.fleet(10);
+            Told x = Check.fleet(10);
             Check.beginForAll(x, 1, needs, 0);
             x.pass(1);
             for (int d = 0; d < needs; d++) {
@@ -178,7 +139,7 @@ final class CampaignsTest {
     }
 
     private static void lowerNeeds() {
-        Ringroll x = Check.fleet(10);
+        Told x = Check.fleet(10);
         Check.beginForAll(x, 1, 10, 0);
         x.pass(1);
         for (int d = 0; d < 4; d++) {
@@ -205,7 +166,7 @@ final class CampaignsTest {
 
     /** Lets ten devices report, so many of them badly; then the campaign goes on or is stopped. */
     private static void judged(int failures, int thousandths, boolean goesOn) {
-        Ringroll x = Check.fleet(10);
+        Told x = Check.fleet(10);
         Check.beginForAll(x, 1, 10, thousandths);
         x.pass(1);
         for (int d = 0; d < 10; d++) {
@@ -219,7 +180,7 @@ final class CampaignsTest {
     }
 
     private static void rulesRefuse() {
-        Ringroll x = Check.fleet(10);
+        Told x = Check.fleet(10);
         x.begin(1, 15, 255, NONE);
         x.setRules(0, 20, 60, 2, 500);
         int[][] wrong = {
@@ -252,7 +213,7 @@ final class CampaignsTest {
     }
 
     private static void toggles() {
-        Ringroll x = Check.fleet(10);
+        Told x = Check.fleet(10);
         Check.beginForAll(x, 1, 3, 0);
         x.pass(1);
         for (int d = 0; d < 5; d++) {
@@ -269,7 +230,7 @@ final class CampaignsTest {
     }
 
     private static void toggledGoesOn() {
-        Ringroll x = Check.fleet(3);
+        Told x = Check.fleet(3);
         x.setImage(1, 200);
         x.setWindow(1, 1, 23);
         Check.beginForAll(x, 1, 10, 0);
@@ -289,7 +250,7 @@ final class CampaignsTest {
     }
 
     private static void toggleForgets() {
-        Ringroll x = Check.fleet(4);
+        Told x = Check.fleet(4);
         Check.beginForAll(x, 1, 3, 400);
         x.pass(1);
         x.report(0, false);
@@ -307,7 +268,7 @@ final class CampaignsTest {
     }
 
     private static void active() {
-        Ringroll x = Check.fleet(2);
+        Told x = Check.fleet(2);
         x.begin(1, 15, 255, NONE);
         x.begin(2, 15, 255, NONE);
         x.toggle(1);
@@ -320,7 +281,7 @@ final class CampaignsTest {
     }
 
     private static void ringsWiden() {
-        Ringroll x = Check.fleet(10);
+        Told x = Check.fleet(10);
         Check.beginForAll(x, 1, 2, 0);
         x.pass(1);
         int[] rings = {0, 1, 1, 2, 2, 2, 2, 2, 2, 2};
@@ -331,7 +292,7 @@ final class CampaignsTest {
             Check.same("reports(0) after " + d, reports[d], x.reports(0));
             Check.yes("isActive(0) after " + d, x.isActive(0));
         }
-        Ringroll y = Check.fleet(10);
+        Told y = Check.fleet(10);
         Check.beginForAll(y, 1, 2, 400);
         y.pass(1);
         for (int d = 0; d < 6; d++) {
@@ -346,7 +307,7 @@ final class CampaignsTest {
     }
 
     private static void ringOfNow() {
-        Ringroll x = Check.fleet(3);
+        Told x = Check.fleet(3);
         Check.beginForAll(x, 1, 1, 0);
         x.pass(1);
         x.report(0, true);
@@ -361,7 +322,7 @@ final class CampaignsTest {
     }
 
     private static void stoppedCounts() {
-        Ringroll x = Check.fleet(4);
+        Told x = Check.fleet(4);
         Check.beginForAll(x, 1, 2, 1000);
         x.pass(1);
         x.report(0, true);
@@ -378,7 +339,7 @@ final class CampaignsTest {
     }
 
     private static void eligibleAsks() {
-        Ringroll x = new Ringroll();
+        Told x = new Told();
         x.setDelta(0, 2, 5);
         x.setDelta(1, 2, 5);
         x.addDevice(0, 0);
@@ -412,7 +373,7 @@ final class CampaignsTest {
     }
 
     private static void eligibleIdle() {
-        Ringroll x = Check.fleet(3);
+        Told x = Check.fleet(3);
         x.setImage(1, 200);
         Check.beginForAll(x, 1, 10, 0);
         Check.beginForAll(x, 2, 10, 0);
@@ -429,26 +390,15 @@ final class CampaignsTest {
     }
 
     private static void draws() {
-        Ringroll x = Check.fleet(10);
         for (int c = 0; c < 6; c++) {
-            x.begin(1, 15, 255, NONE);
+            Told x = Check.fleet(10);
+            for (int begun = 0; begun <= c; begun++) {
+                x.begin(1, 15, 255, NONE);
+            }
             for (int share = 0; share <= 100; share++) {
                 x.setRules(c, share, share, 1, 0);
                 Check.same("eligible(" + c + ") of the share " + share, belowShare(c, share), x.eligible(c));
             }
-        }
-    }
-
-    private static void askedOfNone() {
-        Ringroll x = Check.fleet(2);
-        Check.refuses("isActive(0)", Check.INDEX, x, () -> x.isActive(0));
-        x.begin(1, 15, 255, NONE);
-        for (int campaign : NO_SUCH) {
-            Check.refuses("toggle(" + campaign + ")", Check.INDEX, x, () -> x.toggle(campaign));
-            Check.refuses("isActive(" + campaign + ")", Check.INDEX, x, () -> x.isActive(campaign));
-            Check.refuses("ring(" + campaign + ")", Check.INDEX, x, () -> x.ring(campaign));
-            Check.refuses("reports(" + campaign + ")", Check.INDEX, x, () -> x.reports(campaign));
-            Check.refuses("eligible(" + campaign + ")", Check.INDEX, x, () -> x.eligible(campaign));
         }
     }
 }

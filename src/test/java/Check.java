@@ -39,9 +39,9 @@ final class Check {
         same(what, Boolean.FALSE, Boolean.valueOf(got));
     }
 
-    /** Asks that the call throws exactly this, and that nothing that can be asked of x is another than before. */
-    static void refuses(String what, Class<? extends RuntimeException> due, Ringroll x, Runnable call) {
-        String before = look(x);
+    /** Asks that the call throws exactly this, and that a twin that was told it too holds what one without it holds. */
+    static void refuses(String what, Class<? extends RuntimeException> due, Told x, Runnable call) {
+        int before = x.calls();
         Class<?> got = null;
         try {
             call.run();
@@ -51,29 +51,11 @@ final class Check {
         if (got != due) {
             throw new AssertionError(what + " threw " + got + ", due is " + due);
         }
-        same("all that can be asked after " + what, before, look(x));
+        same("the calls told by " + what, before + 1, x.calls());
+        same("what is held after " + what, Look.at(x, before), Look.at(x, before + 1));
     }
 
-    /** All that can be asked of an object, as a text. */
-    static String look(Ringroll x) {
-        StringBuilder text = new StringBuilder();
-        for (int from = 0; from < 8; from++) {
-            for (int to = 0; to < 8; to++) {
-                text.append(x.size(from, to)).append(' ');
-            }
-        }
-        for (int d = 0; d < x.devices(); d++) {
-            text.append("| device ").append(d).append(": ").append(x.state(d)).append(' ').append(x.version(d))
-                    .append(' ').append(x.campaignOf(d)).append(' ').append(x.toGo(d)).append(' ').append(x.battery(d));
-        }
-        for (int c = 0; c < campaigns(x); c++) {
-            text.append("| campaign ").append(c).append(": ").append(x.isActive(c)).append(' ').append(x.ring(c))
-                    .append(' ').append(x.reports(c)).append(' ').append(x.eligible(c));
-        }
-        return text.toString();
-    }
-
-    static int campaigns(Ringroll x) {
+    static int campaigns(Told x) {
         int count = 0;
         try {
             while (count < 100) {
@@ -87,8 +69,8 @@ final class Check {
     }
 
     /** A fleet of devices of the kind 0 with the version 0, and images of 100 for the versions 1 to 7. */
-    static Ringroll fleet(int devices) {
-        Ringroll x = new Ringroll();
+    static Told fleet(int devices) {
+        Told x = new Told();
         for (int v = 1; v < 8; v++) {
             x.setImage(v, 100);
         }
@@ -99,7 +81,7 @@ final class Check {
     }
 
     /** Begins a campaign to the target for all, with full shares. */
-    static int beginForAll(Ringroll x, int target, int needs, int thousandths) {
+    static int beginForAll(Told x, int target, int needs, int thousandths) {
         int campaign = x.begin(target, 15, 255, Ringroll.NONE);
         x.setRules(campaign, 100, 100, needs, thousandths);
         return campaign;

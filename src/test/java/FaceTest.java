@@ -2,6 +2,7 @@ import java.lang.reflect.Constructor;
 import java.lang.reflect.Field;
 import java.lang.reflect.Method;
 import java.lang.reflect.Modifier;
+import java.util.List;
 import java.util.TreeSet;
 
 /** The face of the class, and promise 1. */
@@ -114,7 +115,7 @@ final class FaceTest {
     }
 
     private static void newObject() {
-        Ringroll x = new Ringroll();
+        Told x = new Told();
         Check.same("devices()", 0, x.devices());
         Check.refuses("state(0)", Check.INDEX, x, () -> x.state(0));
         Check.refuses("ring(0)", Check.INDEX, x, () -> x.ring(0));
@@ -123,7 +124,7 @@ final class FaceTest {
     }
 
     private static void newState() {
-        Ringroll x = new Ringroll();
+        Told x = new Told();
         for (int from = 0; from < 8; from++) {
             for (int to = 0; to < 8; to++) {
                 int due = from == to ? 0 : Ringroll.NONE;
@@ -144,12 +145,13 @@ final class FaceTest {
     }
 
     private static void twoObjects() {
-        Ringroll x = Check.fleet(3);
+        List<String> before = Look.at(new Told(), 0);
+        Told x = Check.fleet(3);
         Check.beginForAll(x, 1, 1, 0);
         x.allow(5, 2);
         x.pass(7);
-        Check.same("a new object", Check.look(new Ringroll()), Check.look(new Ringroll()));
-        Ringroll y = new Ringroll();
+        Check.same("what a new object holds", before, Look.at(new Told(), 0));
+        Told y = new Told();
         Check.same("devices()", 0, y.devices());
         Check.same("campaigns", 0, Check.campaigns(y));
         Check.same("size(0, 1)", -1, y.size(0, 1));

@@ -21,7 +21,7 @@ final class HoursTest {
     }
 
     private static void passRefuses() {
-        Ringroll x = Check.fleet(2);
+        Told x = Check.fleet(2);
         x.setWindow(0, 1, 1);
         Check.beginForAll(x, 1, 10, 0);
         for (int hours : new int[] {0, -1, 101, Integer.MIN_VALUE, Integer.MAX_VALUE}) {
@@ -32,7 +32,7 @@ final class HoursTest {
     }
 
     private static void fewAndMany() {
-        Ringroll x = Check.fleet(1);
+        Told x = Check.fleet(1);
         x.setImage(1, 10000);
         Check.beginForAll(x, 1, 10, 0);
         Check.same("pass(1)", 0, x.pass(1));
@@ -49,7 +49,7 @@ final class HoursTest {
         int[] sizes = {1, 99, 100, 101, 199, 200, 201, 7900, 7901, 8000};
         int[] hours = {1, 1, 1, 2, 2, 2, 3, 79, 80, 80};
         for (int i = 0; i < sizes.length; i++) {
-            Ringroll x = Check.fleet(1);
+            Told x = Check.fleet(1);
             x.setImage(1, sizes[i]);
             Check.beginForAll(x, 1, 10, 0);
             if (hours[i] > 1) {
@@ -65,7 +65,7 @@ final class HoursTest {
     }
 
     private static void lowestCampaign() {
-        Ringroll x = Check.fleet(1);
+        Told x = Check.fleet(1);
         Check.beginForAll(x, 1, 10, 0);
         Check.beginForAll(x, 2, 10, 0);
         Check.beginForAll(x, 3, 10, 0);
@@ -81,7 +81,7 @@ final class HoursTest {
     }
 
     private static void sizeOfThen() {
-        Ringroll x = Check.fleet(2);
+        Told x = Check.fleet(2);
         x.setImage(1, NONE);
         x.setWindow(0, 3, 3);
         x.setWindow(1, 3, 3);
@@ -106,7 +106,7 @@ final class HoursTest {
 
     private static void batteries() {
         for (int battery = 0; battery <= 100; battery++) {
-            Ringroll x = Check.fleet(1);
+            Told x = Check.fleet(1);
             x.charge(0, battery);
             Check.beginForAll(x, 1, 10, 0);
             int due = battery >= 20 ? 1 : 0;
@@ -118,7 +118,7 @@ final class HoursTest {
     }
 
     private static void resumed() {
-        Ringroll x = Check.fleet(1);
+        Told x = Check.fleet(1);
         x.setImage(1, 500);
         x.charge(0, 21);
         Check.beginForAll(x, 1, 10, 0);
@@ -137,7 +137,7 @@ final class HoursTest {
     }
 
     private static void clock() {
-        Ringroll x = Check.fleet(1);
+        Told x = Check.fleet(1);
         x.setImage(1, 100000);
         x.setWindow(0, 23, 0);
         Check.beginForAll(x, 1, 10, 0);
@@ -156,7 +156,7 @@ final class HoursTest {
     }
 
     private static void trialWaits() {
-        Ringroll x = Check.fleet(1);
+        Told x = Check.fleet(1);
         Check.beginForAll(x, 1, 10, 0);
         Check.beginForAll(x, 2, 10, 0);
         Check.same("pass(100)", 1, x.pass(100));
@@ -168,7 +168,7 @@ final class HoursTest {
     }
 
     private static void nextCampaign() {
-        Ringroll x = Check.fleet(1);
+        Told x = Check.fleet(1);
         Check.beginForAll(x, 1, 10, 1000);
         x.pass(1);
         x.report(0, false);
@@ -183,7 +183,7 @@ final class HoursTest {
     }
 
     private static void counted() {
-        Ringroll x = Check.fleet(10);
+        Told x = Check.fleet(10);
         x.setImage(1, 1000);
         for (int d = 0; d < 10; d++) {
             x.setWindow(d, d, 23);
@@ -192,7 +192,7 @@ final class HoursTest {
         for (int hour = 0; hour < 20; hour++) {
             Check.same("pass(1) at " + hour, hour >= 9 && hour < 19 ? 1 : 0, x.pass(1));
         }
-        Ringroll y = Check.fleet(10);
+        Told y = Check.fleet(10);
         y.setImage(1, 1000);
         Check.beginForAll(y, 1, 10, 0);
         Check.same("pass(9)", 0, y.pass(9));
@@ -200,7 +200,7 @@ final class HoursTest {
     }
 
     private static void wholeRollout() {
-        Ringroll x = Check.fleet(10);
+        Told x = Check.fleet(10);
         x.begin(1, 15, 255, NONE);
         x.setRules(0, 20, 50, 2, 500);
         Check.same("pass(10), the draws 13 and 9", 2, x.pass(10));

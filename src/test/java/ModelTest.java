@@ -4,6 +4,7 @@ import java.util.Random;
 final class ModelTest {
     private static final int RUNS = 1500;
     private static final int CALLS = 512;
+    private static final int PREPARED = 50;
     private static final int[] ODD = {-2, -1, 8, 16, 100, 101, 256, 1001, Integer.MIN_VALUE, Integer.MAX_VALUE};
 
     private static final int ALLOW = 0, IMAGE = 1, DELTA = 2, SIZE = 3, WAYS = 4, ADD = 5, CHARGE = 6, WINDOW = 7;
@@ -34,7 +35,7 @@ final class ModelTest {
         if (style > 0) {
             prepare(style, random, x, model);
         }
-        for (int i = 0; i < CALLS - 60; i++) {
+        for (int i = style > 0 ? PREPARED : 0; i < CALLS; i++) {
             int call = style == 0 ? random.nextInt(KINDS_OF_CALLS) : likely(random);
             int[] a = arguments(call, random);
             String got = answer(() -> ofObject(x, call, a));
@@ -46,7 +47,7 @@ final class ModelTest {
 
     /** Fills the fleet at once, so that most of the run is a rollout. */
     private static void prepare(int style, Random random, Ringroll x, Model model) {
-        for (int i = 0; i < 50; i++) {
+        for (int i = 0; i < PREPARED; i++) {
             int call = i < 20 ? DELTA : i < 26 ? IMAGE : i < 36 ? ADD : i < 40 ? BEGIN : RULES;
             int[] a = arguments(call, random);
             if (call == ADD && style == 2) {
