@@ -130,6 +130,8 @@ final class RefusalsTest {
                 (x, v) -> x.setDelta(v, v, 5), 0, 1, 2, 3, 4, 5, 6, 7);
         refused("promise 4: setDelta: both versions the same, with NONE", ARGUMENT, RefusalsTest::midway,
                 (x, v) -> x.setDelta(v, v, NONE), 0, 1, 2, 3, 4, 5, 6, 7);
+        refused("promise 4: setDelta: both versions the same, with a wrong size", ARGUMENT, RefusalsTest::midway,
+                (x, v) -> x.setDelta(3, 3, v), 0, -2, 100001);
         refused("promise 4: setDelta: no version comes before the same twice", INDEX, RefusalsTest::midway,
                 (x, v) -> x.setDelta(v, v, 5), -1, 8);
         refused("promise 4: setDelta: no version to come from comes before a wrong size", INDEX, RefusalsTest::midway,
@@ -153,6 +155,10 @@ final class RefusalsTest {
         range("promise 7: addDevice: version 0 to 7", INDEX, (x, v) -> x.addDevice(1, v), 0, 7);
         refused("promise 7: addDevice: the version may not run on the kind", STATE, RefusalsTest::midway,
                 (x, v) -> x.addDevice(v, 3), 0, 3);
+        refused("promise 7: addDevice: no kind comes before a version that may not run", INDEX, RefusalsTest::midway,
+                (x, v) -> x.addDevice(v, 3), -1, 4);
+        refused("promise 7: addDevice: neither kind nor version", INDEX, RefusalsTest::midway,
+                (x, v) -> x.addDevice(v, v * 2), -1, 4);
         refused("promise 7: addDevice: there are 10 devices", STATE, RefusalsTest::fullFleet,
                 (x, v) -> x.addDevice(v, 0), 0, 1, 2, 3);
         refused("promise 7: addDevice: 10 devices, and the version may not run on the kind", STATE,
@@ -219,6 +225,8 @@ final class RefusalsTest {
                 (x, v) -> x.begin(1, 5, 5, v), NONE, 1);
         refused("promise 17: begin: replaced among no campaigns", INDEX, () -> Check.fleet(1),
                 (x, v) -> x.begin(1, 5, 5, v), 0);
+        refused("promise 17: begin: neither target nor replaced campaign", INDEX, RefusalsTest::midway,
+                (x, v) -> x.begin(v, 5, 5, v * 2), -1, 8);
         refused("promise 17: begin: no target comes before wrong kinds", INDEX, RefusalsTest::midway,
                 (x, v) -> x.begin(v, 16, 5, 0), -1, 8);
         refused("promise 17: begin: no target comes before wrong versions", INDEX, RefusalsTest::midway,
@@ -254,6 +262,8 @@ final class RefusalsTest {
                 (x, v) -> x.setRules(0, 100, v, 2, 5), 100, 100);
         range("promise 18: setRules: needs 1 to 10", ARGUMENT, (x, v) -> x.setRules(0, 30, 40, v, 5), 1, 10);
         range("promise 18: setRules: thousandths 0 to 1000", ARGUMENT, (x, v) -> x.setRules(0, 30, 40, 2, v), 0, 1000);
+        refused("promise 18: setRules: all four out of range", ARGUMENT, RefusalsTest::midway,
+                (x, v) -> x.setRules(0, v, v - 1, v, v), -1, 1001);
         refused("promise 18: setRules: a first beyond 100 with a second from it on", ARGUMENT, RefusalsTest::midway,
                 (x, v) -> x.setRules(0, v, v, 2, 5), 101, -1);
     }
