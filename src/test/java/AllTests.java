@@ -13,6 +13,7 @@ public final class AllTests {
         EdgesTest.run();
         CampaignEdgesTest.run();
         ModelTest.run();
+        ReadmeTest.run();
         System.out.println("tests of the project: " + Check.passed + " passed, " + Check.failed + " failed");
         if (Check.failed != 0 || Check.passed == 0) {
             System.exit(1);
